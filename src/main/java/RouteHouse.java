@@ -68,8 +68,6 @@ public final class RouteHouse {
         waits = new Waits();
         delivery = new Delivery();
         tokens = MOST_TOKENS;
-        replies = 0;
-        time = 0;
     }
 
     public void port(int port, int address, int mtu) throws IndexOutOfBoundsException, IllegalArgumentException {
@@ -408,7 +406,6 @@ public final class RouteHouse {
         boolean isUp;
 
         Port() {
-            address = 0;
             mtu = MOST_MTU;
             isUp = true;
         }
@@ -426,7 +423,6 @@ public final class RouteHouse {
             bits = new int[MOST_ROUTES];
             ways = new int[MOST_ROUTES];
             nexts = new int[MOST_ROUTES];
-            count = 0;
         }
 
         static int beginning(int address, int bits) {
@@ -485,7 +481,6 @@ public final class RouteHouse {
 
         Packet(int room) {
             row = new byte[room];
-            count = 0;
         }
 
         int headerLength() {
@@ -615,10 +610,6 @@ public final class RouteHouse {
 
         Delivery() {
             bytes = new byte[MOST_WHOLE_DATA];
-            times = 0;
-            source = 0;
-            destination = 0;
-            count = 0;
         }
 
         void take(Packet packet) {
@@ -652,8 +643,6 @@ public final class RouteHouse {
             ways = new int[MOST_PACKETS];
             nexts = new int[MOST_PACKETS];
             laterHeader = new byte[LONGEST_HEADER];
-            count = 0;
-            used = 0;
         }
 
         void empty() {
@@ -748,16 +737,6 @@ public final class RouteHouse {
             first = new Packet(LONGEST_HEADER + QUOTED_DATA);
             bytes = new byte[MOST_WHOLE_DATA];
             unitsThere = new boolean[MOST_WHOLE_DATA / UNIT];
-            hasFirst = false;
-            firstPort = 0;
-            source = 0;
-            destination = 0;
-            identity = 0;
-            protocol = 0;
-            since = 0;
-            unitCount = 0;
-            reach = 0;
-            isEndKnown = false;
         }
 
         void begin(Packet piece, int time) {
@@ -837,7 +816,6 @@ public final class RouteHouse {
             for (int i = 0; i < MOST_WAITING; i++) {
                 oldestFirst[i] = new Waiting();
             }
-            count = 0;
         }
 
         /** Takes a piece: whether the whole is there with it, which then is written and waits no more. */

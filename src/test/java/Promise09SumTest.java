@@ -7,7 +7,11 @@ public final class Promise09SumTest {
             sumsWords(words);
         }
         for (int identity : new int[] {0, 1, 0x1234, 0xffff, identityForSum(0), identityForSum(1), identityForSum(0xfffe)}) {
-            quotedSum(identity);
+            quotedSum(strange(identity));
+        }
+        // Among these is one whose sum goes beyond 16 bits a second time.
+        for (int identity = 0x9080; identity < 0x9090; identity++) {
+            quotedSum(strange(identity).from(0xdfffffff));
         }
         otherSumsAreWrong();
         wrongNumbers();
@@ -16,7 +20,7 @@ public final class Promise09SumTest {
 
     private static void sumsWords(int words) {
         Bench bench = new Bench();
-        Pack pack = Pack.to(Bench.HERE).identity(0xabcd);
+        Pack pack = Pack.to(Bench.HERE).identity(0xabcd).data(Pack.count(5, 50));
         pack.options = new byte[words * 4 - 20];
         Arrays.fill(pack.options, (byte) 1);
         byte[] packet = pack.bytes();
@@ -45,16 +49,16 @@ public final class Promise09SumTest {
     }
 
     /** An error quotes the header as it came, so that the sum can be read. */
-    private static void quotedSum(int identity) {
+    private static void quotedSum(Pack pack) {
         Bench bench = new Bench();
-        byte[] packet = strange(identity).bytes();
+        byte[] packet = pack.bytes();
         byte[] other = packet.clone();
         other[10] = 77;
         other[11] = 78;
         bench.lay(other);
         bench.house.sum(5);
         Due.is("taken", bench.house.receive(0), 14);
-        Due.is("sum of identity " + identity, Pack.part(bench.outRow(0), 28, 48), packet);
+        Due.is("sum of identity " + pack.identity, Pack.part(bench.outRow(0), 28, 48), packet);
     }
 
     private static void otherSumsAreWrong() {

@@ -3,9 +3,12 @@ public final class Promise12PassTest {
     public static void main(String[] args) {
         numbers();
         goesAfterThirty();
+        longestHeader();
         sinceItsFirstPiece();
         noErrorAboutThese();
+        rowsUsedAgain();
         oldestFirst();
+        allAtOnce();
         behindTheToken();
         outIsTheseAlone();
         Due.close();
@@ -40,6 +43,16 @@ public final class Promise12PassTest {
         Due.is("not again", bench.house.pass(100), 0);
     }
 
+    private static void longestHeader() {
+        Bench bench = new Bench();
+        int[] options = new int[40];
+        java.util.Arrays.fill(options, 1);
+        byte[] packet = first(5).options(options).bytes();
+        bench.take(packet, 1);
+        Due.is("30 units", bench.house.pass(30), 1);
+        bench.outIs("96 bytes", Pack.error(0, Bench.THERE, packet, 11, 1, 0), 1, 0);
+    }
+
     private static void sinceItsFirstPiece() {
         Bench bench = new Bench();
         bench.take(Pack.to(Bench.HERE).identity(5).cut(0, 9).data(1), 0);
@@ -69,6 +82,33 @@ public final class Promise12PassTest {
         Bench bench = new Bench();
         bench.take(first(1).protocol(1).data(Pack.control(8, 0, new byte[12])), 1);
         Due.is("a request", bench.house.pass(30), 1);
+    }
+
+    /** What waited before leaves nothing behind for what waits in its place. */
+    private static void rowsUsedAgain() {
+        Bench bench = new Bench();
+        bench.take(first(1), 1);
+        bench.house.pass(30);
+        silent("no piece with offset 0, but one before", bench, Pack.to(Bench.HERE).cut(0, 1).data(7), 6);
+        bench.take(first(1), 1);
+        bench.take(Pack.to(Bench.HERE).identity(1).cut(0, 2).data(Pack.count(0, 9)), 1);
+        Due.is("whole", bench.house.about(6), 1);
+        Due.is("a piece again", bench.take(first(1).data(Pack.count(0, 8)), 1), 10);
+        Due.is("the middle is missing", bench.take(Pack.to(Bench.HERE).identity(1).cut(0, 2).data(1), 1), 10);
+        Due.is("it waits", bench.house.about(2), 1);
+    }
+
+    private static void allAtOnce() {
+        Bench bench = new Bench();
+        for (int identity = 1; identity <= 4; identity++) {
+            bench.take(first(identity), 0);
+        }
+        bench.house.pass(29);
+        Due.is("four in one unit", bench.house.pass(1), 4);
+        Due.is("none waits", bench.house.about(2), 0);
+        for (int i = 0; i < 4; i++) {
+            bench.outHas("the oldest first", i, Pack.error(i, Bench.HERE, first(i + 1).bytes(), 11, 1, 0), 0, 0);
+        }
     }
 
     private static void oldestFirst() {
