@@ -62,7 +62,8 @@ public final class ModelTest {
         int a = random.nextInt(12) - 1;
         switch (kind) {
             case 14:
-                setPort(a, random.nextInt(4) == 0 ? 0 : pick(OWN), random.nextInt(8) == 0 ? 90 + random.nextInt(20) : pick(MTUS));
+                int mtu = random.nextInt(8) == 0 ? 90 + random.nextInt(20) : pick(MTUS);
+                setPort(a, random.nextInt(4) == 0 ? 0 : pick(OWN), mtu);
                 break;
             case 15:
                 boolean up = random.nextInt(3) > 0;
