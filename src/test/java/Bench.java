@@ -1,4 +1,4 @@
-/** A RouteHouse with three ports and three routes, and calls on it in packets instead of numbers. */
+/** A RouteHouse with three ports and two routes, or a bare one, and calls on it in packets instead of numbers. */
 final class Bench {
     static final int HERE = Pack.ip(10, 0, 0, 1);
     static final int THERE = Pack.ip(10, 0, 1, 1);
@@ -10,8 +10,11 @@ final class Bench {
     static final int WIDE = Pack.ip(10, 9, 9, 9);
     /** Has no route. */
     static final int LOST = Pack.ip(11, 1, 1, 1);
+    /** What an object answers beyond its 512th call is free; some are left for calls that are not counted here. */
+    private static final int MOST_CALLS = 490;
 
     final RouteHouse house = new RouteHouse();
+    private int calls = 0;
 
     Bench() {
         house.port(0, HERE, 1500);
@@ -21,11 +24,16 @@ final class Bench {
         house.route(Pack.ip(10, 9, 9, 0), 24, 2, 0);
     }
 
-    void lay(byte[] row) {
-        lay(house, row);
+    private Bench(boolean isBare) {
     }
 
-    static void lay(RouteHouse house, byte[] row) {
+    /** A new object, to which nothing was done. */
+    static Bench bare() {
+        return new Bench(true);
+    }
+
+    void lay(byte[] row) {
+        count(row.length / 20 + 3);
         house.end(0);
         for (int at = 0; at < row.length; at += 20) {
             house.feed(four(row, at), four(row, at + 4), four(row, at + 8), four(row, at + 12), four(row, at + 16));
@@ -44,6 +52,7 @@ final class Bench {
 
     byte[] outRow(int i) {
         byte[] row = new byte[house.sent(i, 0)];
+        count(row.length + 4);
         for (int k = 0; k < row.length; k++) {
             row[k] = (byte) house.out(i, k);
         }
@@ -52,6 +61,7 @@ final class Bench {
 
     byte[] delivered() {
         byte[] row = new byte[house.about(9)];
+        count(row.length + 4);
         for (int k = 0; k < row.length; k++) {
             row[k] = (byte) house.data(k);
         }
@@ -74,8 +84,24 @@ final class Bench {
 
     /** No answer, no error: the out is empty, and no token was taken. */
     void silent(String what, int tokens) {
+        count(2);
         Due.is(what + ": packets of the out", house.about(1), 0);
         Due.is(what + ": tokens", house.about(3), tokens);
+    }
+
+    /** Takes all six tokens. */
+    void spendTokens() {
+        for (int i = 0; i < 6; i++) {
+            take(Pack.to(LOST), 0);
+        }
+        Due.is("tokens", house.about(3), 0);
+    }
+
+    private void count(int more) {
+        calls += more;
+        if (calls > MOST_CALLS) {
+            throw new IllegalStateException("the test asks for more than 512 calls");
+        }
     }
 
     private static int four(byte[] row, int at) {

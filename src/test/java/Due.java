@@ -1,11 +1,32 @@
+import java.lang.reflect.InvocationTargetException;
+import java.lang.reflect.Method;
+import java.lang.reflect.Modifier;
 import java.util.Arrays;
+import java.util.Comparator;
 
-/** Counts what is not as it is due; a test's main method ends with close(). */
+/** Counts what is not as it is due; a test's main method ends with cases() or with close(). */
 final class Due {
+    private static String now = "";
     private static int looked = 0;
     private static int wrong = 0;
 
     private Due() {
+    }
+
+    /** Runs each case of a test: a static method without parameters that is not private. Then it closes. */
+    static void cases(Class<?> test) {
+        Method[] methods = test.getDeclaredMethods();
+        Arrays.sort(methods, Comparator.comparing(Method::getName));
+        int count = 0;
+        for (Method method : methods) {
+            if (isCase(method)) {
+                runCase(method);
+                count++;
+            }
+        }
+        now = "";
+        System.out.print(count + " cases, ");
+        close();
     }
 
     static void is(String what, long got, long want) {
@@ -16,13 +37,23 @@ final class Due {
     }
 
     static void is(String what, boolean got, boolean want) {
-        is(what, got ? 1 : 0, want ? 1 : 0);
+        looked++;
+        if (got != want) {
+            tell(what + " is " + got + ", due is " + want);
+        }
     }
 
     static void is(String what, byte[] got, byte[] want) {
         looked++;
         if (!Arrays.equals(got, want)) {
             tell(what + " is " + hex(got) + ", due is " + hex(want));
+        }
+    }
+
+    static void is(String what, String got, String want) {
+        looked++;
+        if (!got.equals(want)) {
+            tell(what + " is " + got + ", due is " + want);
         }
     }
 
@@ -58,10 +89,31 @@ final class Due {
         }
     }
 
+    private static boolean isCase(Method method) {
+        int flags = method.getModifiers();
+        return Modifier.isStatic(flags) && !Modifier.isPrivate(flags) && !method.isSynthetic()
+                && method.getParameterCount() == 0;
+    }
+
+    private static void runCase(Method method) {
+        now = method.getDeclaringClass().getName() + "." + method.getName() + ": ";
+        int before = looked;
+        try {
+            method.invoke(null);
+        } catch (InvocationTargetException e) {
+            tell("it broke off by " + e.getCause());
+        } catch (IllegalAccessException e) {
+            tell("it can't be called");
+        }
+        if (looked == before) {
+            tell("nothing was looked at");
+        }
+    }
+
     private static void tell(String text) {
         wrong++;
         if (wrong <= 40) {
-            System.out.println(text);
+            System.out.println(now + text);
         }
     }
 
