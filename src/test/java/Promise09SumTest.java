@@ -58,7 +58,10 @@ public final class Promise09SumTest {
 
     static void wordsFarOutsideAreRefused() {
         // Four times some of these wraps around to what a tape has.
-        for (int words : new int[] {0, -1, -5, 1 << 30, (1 << 30) + 5, Integer.MIN_VALUE, Integer.MIN_VALUE + 5, Integer.MAX_VALUE}) {
+        int[] numbers = {
+            0, -1, -5, 1 << 30, (1 << 30) + 5, Integer.MIN_VALUE, Integer.MIN_VALUE + 5, Integer.MAX_VALUE,
+        };
+        for (int words : numbers) {
             Busy.badNumber(words + " words", house -> house.sum(words));
         }
     }
