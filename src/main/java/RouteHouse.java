@@ -563,7 +563,7 @@ public final class RouteHouse {
             int size = 1;
             for (int at = BARE_HEADER; at < end && row[at] != 0; at += size) {
                 size = optionSize(at, end);
-                if (size == 0) {
+                if (size < 1) {
                     return at;
                 }
             }
